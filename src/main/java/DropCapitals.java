@@ -448,34 +448,18 @@ public final class DropCapitals {
 
     private int bestDrop(int p) {
         int found = DROP_LEAST;
-        int lines = 0;
-        int clashes = 0;
-        int overs = 0;
+        int least = 0;
         for (int n = DROP_LEAST; n <= DROP_MOST; n++) {
             layTrial(p, n);
-            int nowClashes = trial.clashesWithin(0, LINES_MAX);
-            int nowOvers = trial.oversWithin(0, LINES_MAX);
-            boolean worse = n > DROP_LEAST
-                && isMore(trial.lines, lines, nowClashes, clashes, nowOvers, overs);
-            if (!worse) {
+            // lines, then clashes, then over ones in one number: each of them is below 1000
+            int mark = trial.lines * 1000000 + trial.clashesWithin(0, LINES_MAX) * 1000
+                + trial.oversWithin(0, LINES_MAX);
+            if (n == DROP_LEAST || mark <= least) {
                 found = n;
-                lines = trial.lines;
-                clashes = nowClashes;
-                overs = nowOvers;
+                least = mark;
             }
         }
         return found;
-    }
-
-    /** Whether a row of three numbers is above another, the first that is unlike telling. */
-    private static boolean isMore(int a, int b, int c, int d, int e, int f) {
-        if (a != b) {
-            return a > b;
-        }
-        if (c != d) {
-            return c > d;
-        }
-        return e > f;
     }
 
     // A word is one number, five bits a letter, the first one lowest: like words are like numbers.

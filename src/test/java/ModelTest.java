@@ -721,7 +721,21 @@ public final class ModelTest {
         return s + blanks(false) + ";" + blanks(false);
     }
 
+    /** Narrow rooms of many widths beside the letters, so that EVEN can choose which lines are over. */
+    static String aNarrowText() {
+        StringBuilder s = new StringBuilder("set measure " + (20 + r(6)) + ";set mode 1;set policy " + r(3) + ";shape a 20");
+        for (int i = 0; i < 5; i++) s.append(" ").append(i * 4).append(" ").append(5 + r(12));
+        s.append(";");
+        for (int p = 0; p < 1 + r(4); p++) {
+            s.append("par").append(r(3) == 0 ? "" : " a" + (2 + r(4))).append(":");
+            for (int i = 0; i < 2 + r(11); i++) s.append(" ").append(aWord(3));
+            s.append(";");
+        }
+        return s.toString();
+    }
+
     static String aText() {
+        if (r(6) == 0) return aNarrowText();
         StringBuilder s = new StringBuilder(blanks(false));
         int style = r(6);
         for (int which = 0; which < 6; which++) if (r(2) == 0) s.append(aSetting(which));

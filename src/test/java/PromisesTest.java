@@ -94,12 +94,13 @@ public final class PromisesTest {
         DropCapitals x = told("set gap 3; shape a 9 0 4 3 8; par a 3: aa bb; par: cc;");
         x.keep(1);
         feedAll(x, "set cap 7;");
+        due("gap by hand", x.set(11, 4), 3);
         due("text()", x.text(), 1);
         due("rule(14)", x.rule(14), 0);
         due("rule(0)", x.rule(0), 0);
         due("rule(1)", x.rule(1), 0);
         due("rule(2)", x.rule(2), 0);
-        due("gap stays", x.rule(11), 3);
+        due("gap stays", x.rule(11), 4);
         due("cap is told", x.rule(10), 7);
         due("images are gone", x.rule(15), 0);
         due("back(1)", x.back(1), STATE);
@@ -373,11 +374,90 @@ public final class PromisesTest {
         due("EVEN lines", y.rule(4), 3);
         due("EVEN line 1", y.line(1, 1), 1);
         due("EVEN line 2", y.line(2, 1), 2);
+        // the last line's slack is free: 3 left beats 12 left, though the last line has 16 left then
+        DropCapitals v = told("set measure 20;set mode 1;par: aaaa bbbb cc;");
+        due("short last line, line 0", v.line(0, 2), 2);
+        due("short last line, sum", v.par(0, 9), 9);
+        // 18 and 1 with 1 between fill the line
+        DropCapitals u = told("set measure 20;set mode 1;par: mmmmmm i aa bb;");
+        due("full line, words", u.line(0, 2), 2);
+        due("full line, sum", u.par(0, 9), 0);
         // 5 and 10 left, or 10 and 5: of like sums the way with more words in its first line
         DropCapitals z = told("set measure 20;set mode 1;par: aaaaa aa bbbbb mmmmmm;");
         due("like sums, line 0", z.line(0, 2), 2);
         due("like sums, line 1", z.line(1, 2), 1);
         due("like sums, line 2", z.line(2, 2), 1);
+    }
+
+    /** Each change by hand shows in how the lines lie, asked ahead of it and behind it. */
+    private static void changesShow() {
+        String text = "set policy 1;set measure 20;shape a 10 0 1;par a 4: aaaaa bbbbb;par: c d;";
+        promise = 19;
+        DropCapitals x = told(text);
+        due("lines", x.rule(4), 5);
+        x.drop(0, 0, 2);
+        due("lines behind drop", x.rule(4), 3);
+        promise = 20;
+        x = told(text);
+        due("lines", x.rule(4), 5);
+        x.fit();
+        due("lines behind fit", x.rule(4), 3);
+        promise = 21;
+        x = told(text);
+        due("lines", x.rule(4), 5);
+        x.cut(1, 1);
+        due("lines behind cut", x.rule(4), 6);
+        promise = 22;
+        x = told(text);
+        due("lines", x.rule(4), 5);
+        x.join(0);
+        due("lines behind join", x.rule(4), 2);
+        promise = 23;
+        x = told(text);
+        due("words on line 1", x.line(1, 2), 1);
+        x.move(1, 0, 0, 1);
+        due("words on line 1 behind move", x.line(1, 2), 2);
+        promise = 25;
+        x = told(text);
+        x.keep(0);
+        x.join(0);
+        due("lines", x.rule(4), 2);
+        x.back(0);
+        due("lines behind back", x.rule(4), 5);
+        promise = 4;
+        feedAll(x, "par: a;");
+        x.text();
+        due("lines behind text", x.rule(4), 1);
+    }
+
+    /** The edges of a drawn step and of a band: what only meets them has nothing of it. */
+    private static void edgesOfBands() {
+        promise = 13;
+        // H 16 of HEIGHT 16: steps from 0, 4, 8, 9; bands from 0, 4, 8, 12
+        DropCapitals x = told("set leading 4;set cap 4;set gap 0;shape a 16 0 1 4 9 8 2 9 3;par a 4: a;");
+        int[] want = {1, 9, 3, 3, 0};
+        for (int j = 0; j < 5; j++) due("reach(0, " + j + ")", x.reach(0, j), want[j]);
+        // H 8 of HEIGHT 16: the step from 1 up to 2 is empty, wide as it is
+        DropCapitals y = told("set leading 4;set cap 4;set gap 0;shape a 16 0 60 1 6 15 50;par a 2: a;");
+        due("an empty step's begin", y.drawn(0, 0, 0), 0);
+        due("an empty step's end", y.drawn(0, 0, 1), 0);
+        due("reach(0, 0) beside an empty step", y.reach(0, 0), 3);
+        due("reach(0, 1)", y.reach(0, 1), 25);
+        // H 8 of HEIGHT 16 again: the empty step lies at 2, within the band
+        DropCapitals e = told("set leading 4;set cap 4;set gap 0;shape a 16 0 1 4 60 5 2;par a 2: a;");
+        due("a step that begins at 2", e.drawn(0, 1, 0), 2);
+        due("and ends there", e.drawn(0, 1, 1), 2);
+        due("reach(0, 0) with it", e.reach(0, 0), 1);
+        // two paragraphs ahead: a letter may reach beyond the next paragraph
+        DropCapitals z = told("shape a 10 0 1;par a 5: a;par: b;par: c;par: d;par: e;");
+        due("clashes of a far letter", z.rule(6), 4);
+        z.set(13, 1);
+        due("lines by PUSH", z.rule(4), 9);
+        z.set(13, 2);
+        due("lines by WRAP", z.rule(4), 5);
+        due("indent two behind", z.line(2, 3), 5);
+        z.drop(2, 0, 2);
+        due("a letter of its own begins behind", z.par(2, 4), 5);
     }
 
     private static void bests() {
@@ -587,6 +667,8 @@ public final class PromisesTest {
         lines();
         signs();
         evenLines();
+        changesShow();
+        edgesOfBands();
         bests();
         settings();
         drops();
