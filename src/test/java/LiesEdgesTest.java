@@ -182,6 +182,9 @@ public final class LiesEdgesTest {
             "line(0, 2) = 1", "line(1, 2) = 1", "line(2, 2) = 2", "par(0, 9) = 50");
         Bench.edge("EVEN: where OVER can not be helped", "'set mode 1;" + narrow + "shape s 13 0 12;par s 2:a b mmm;' = 4", "rule(4) = 2", "rule(7) = 1", "line(0, 2) = 2",
             "line(1, 2) = 1", "line(1, 6) = 1", "par(0, 9) = 4");
+        // ROOM 7, 7, 15, 20: mmm mm are 16; two LINES with much SLACK and they OVER together would sum up to less
+        Bench.edge("EVEN: two WORDS that do not FIT never go together", "'set mode 1;" + narrow + "shape s 21 0 12 16 4;par s 3:a b mmm mm mmmmmm;' = 4", "rule(4) = 4",
+            "rule(7) = 1", "line(0, 2) = 2", "line(1, 2) = 1", "line(1, 6) = 1", "line(2, 2) = 1", "line(2, 4) = 15", "par(0, 9) = 85");
         Bench.edge("EVEN: a LINE that is full", "'set mode 1;" + narrow + "par:mmmmmm i a;' = 3", "rule(4) = 2", "line(0, 2) = 2", "par(0, 9) = 0");
         Bench.edge("EVEN: a LINE that would be too full by one", "'set mode 1;" + narrow + "par:mmmmmm a b;' = 3", "rule(4) = 2", "line(0, 2) = 1", "line(1, 2) = 2",
             "par(0, 9) = 4", "rule(7) = 0");
